@@ -1209,10 +1209,10 @@ public final class ColumnVault {
         }
 
         private boolean readValue(int kind) {
+            int form = tokens.formAt(at);
             int place = tokens.placeAt(at);
-            int ownKind = tokens.formAt(at) == WORD ? TEXT : NUMBER;
             long value = tokens.valueAt(at);
-            if (!isValueNext()) {
+            if (form != WORD && form != NUMERAL) {
                 fail(MISPLACED, place);
                 return false;
             }
@@ -1220,7 +1220,7 @@ public final class ColumnVault {
                 fail(BEYOND, place);
                 return false;
             }
-            if (ownKind != kind) {
+            if ((form == WORD) != (kind == TEXT)) {
                 fail(OTHER_KIND, place);
                 return false;
             }
@@ -1239,16 +1239,13 @@ public final class ColumnVault {
                 case UP_TO:
                     return sheet.rowsFromTo(column, keys[0], keys[1]);
                 case LACKS:
-                    return sheet.rowsWith(column, MISSING);
+                    return sheet.rowsFromTo(column, MISSING, MISSING);
                 default:
-                    return rowsOfList(column);
+                    break;
             }
-        }
-
-        private long rowsOfList(int column) {
             long found = 0;
             for (int i = 0; i < many && i < LISTED; i++) {
-                found |= sheet.rowsWith(column, keys[i]);
+                found |= sheet.rowsFromTo(column, keys[i], keys[i]);
             }
             return found;
         }
