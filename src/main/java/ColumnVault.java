@@ -1081,7 +1081,6 @@ public final class ColumnVault {
 
         Node readWhole(FilterText text) {
             tokens.readFrom(text);
-            at = 0;
             Node filter = readFilter(0);
             if (filter != null && tokens.formAt(at) != END) {
                 return fail(MISPLACED, tokens.placeAt(at));

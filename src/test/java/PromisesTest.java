@@ -347,6 +347,8 @@ public final class PromisesTest {
         is(2, vault.size(0, 3));
         vault.addColumn(0, TEXT);
         is(7, vault.size(0, 3));
+        vault.set(0, 4, 0, MISSING);
+        is(8, vault.size(0, 3));
         argument(vault, () -> vault.size(0, 4));
         argument(vault, () -> vault.size(0, -1));
         index(vault, () -> vault.size(3, 4));
@@ -603,9 +605,11 @@ public final class PromisesTest {
         String[] filters = {
             "#0 < 5 & !(#1 = b | #1 missing)", "#0 = 1", "#0 = 1 & #0 = 1 & #0 > 5 & #0 = 1", "#0 = 1 | #0 = 1 | #0 < 5 | #0 = 1",
             "#0 to 0 3 & #0 > 1 | #1 missing", "!(#0 = 1 & #0 < 9)", "#0 = 1 & #0 = 2", "#0 < 1 | #0 > 0", "#0 in 1 2 3 & !#0 = 1 & #1 missing",
+            "#1 missing & (#0 = 2 | #0 = 0)", "(#0 = 2 | #0 = 0) & #1 missing", "((((((#0 < 5 & #0 = 1))))))", "!(!(!(#0 < 5 & #0 = 1)))",
+            "#1 missing | (#0 < 3 & #0 < 1)", "(#0 < 3 & #0 < 1) | #1 missing",
         };
-        int[] asTold = {14, 5, 7, 13, 12, 6, 6, 8, 10};
-        int[] byCounts = {10, 5, 5, 5, 10, 6, 6, 7, 8};
+        int[] asTold = {14, 5, 7, 13, 12, 6, 6, 8, 10, 8, 11, 10, 10, 10, 12};
+        int[] byCounts = {10, 5, 5, 5, 10, 6, 6, 7, 8, 8, 11, 6, 6, 9, 10};
         for (int i = 0; i < filters.length; i++) {
             say(vault, filters[i]);
             is(asTold[i], vault.reads(0, false));
@@ -744,6 +748,8 @@ public final class PromisesTest {
         is(160, vault.type(0x28000000000000L));
         state(vault, () -> vault.type(1));
         is(160, vault.type(0));
+        is(2, vault.errorKind(0));
+        is(6, vault.errorPlace(0));
         is(160, vault.clearText());
     }
 
@@ -1167,6 +1173,10 @@ public final class PromisesTest {
         vault.addColumn(0, TEXT);
         argument(vault, () -> vault.alike(0, 1, 0));
         argument(vault, () -> vault.alike(1, 0, 0));
+        ColumnVault kinds = vault();
+        kinds.addColumn(1, TEXT);
+        kinds.addColumn(1, TEXT);
+        argument(kinds, () -> kinds.alike(0, 1, 0));
         // without columns all rows are alike
         ColumnVault bare = new ColumnVault();
         bare.addRow(0);
