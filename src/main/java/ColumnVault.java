@@ -1351,7 +1351,7 @@ public final class ColumnVault {
         private int firstPlaceOf(int[] rightRows, long key) {
             int from = 0;
             int to = rightRows.length;
-            while (from < to) {
+            for (int i = 0; i < ROWS && from < to; i++) {
                 int middle = (from + to) / 2;
                 if (right.keyAt(other, rightRows[middle]) < key) {
                     from = middle + 1;
