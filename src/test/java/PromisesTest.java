@@ -1,18 +1,5 @@
-import java.util.NoSuchElementException;
-
 /** For each promise of the document its ordinary inputs, the edges that it names, and wrong inputs. */
-public final class PromisesTest {
-    private static final long MISSING = ColumnVault.MISSING;
-    private static final int NONE = ColumnVault.NONE;
-    private static final int NUMBER = ColumnVault.NUMBER;
-    private static final int TEXT = ColumnVault.TEXT;
-    private static int promise = 0;
-    private static int wrong = 0;
-
-    private interface Call {
-        void run();
-    }
-
+public final class PromisesTest extends Kit {
     public static void main(String[] args) {
         Call[] promises = {
             PromisesTest::aNewObject, PromisesTest::addColumn, PromisesTest::addRow, PromisesTest::fill, PromisesTest::set,
@@ -24,139 +11,12 @@ public final class PromisesTest {
             PromisesTest::groupTotal, PromisesTest::running, PromisesTest::rank, PromisesTest::previous, PromisesTest::between,
             PromisesTest::nearest, PromisesTest::alike, PromisesTest::errors, PromisesTest::meanOf, PromisesTest::chosenShare,
         };
-        for (Call call : promises) {
-            promise++;
-            call.run();
+        for (int i = 0; i < promises.length; i++) {
+            begin("promise " + (i + 1));
+            promises[i].run();
         }
-        System.out.println(promise + " promises, " + wrong + " wrong answers");
-        if (wrong != 0) {
-            System.exit(1);
-        }
+        end(promises.length);
     }
-
-    // ---- what the tests are told with
-
-    private static void is(Object due, Object got) {
-        if (!due.equals(got)) {
-            wrong++;
-            System.out.println("promise " + promise + ", line " + line() + ": got " + got + ", due is " + due);
-        }
-    }
-
-    private static int line() {
-        return StackWalker.getInstance().walk(frames ->
-            frames.filter(frame -> !frame.getMethodName().matches("is|line|fails|index|argument|state|element|rows|order|error|filter"))
-                .findFirst().get().getLineNumber());
-    }
-
-    private static void fails(Class<?> due, ColumnVault vault, Call call) {
-        int before = vault.version();
-        Object got = "nothing";
-        try {
-            call.run();
-        } catch (RuntimeException e) {
-            got = e.getClass();
-        }
-        is(due, got);
-        is(before, vault.version());
-    }
-
-    private static void index(ColumnVault vault, Call call) {
-        fails(IndexOutOfBoundsException.class, vault, call);
-    }
-
-    private static void argument(ColumnVault vault, Call call) {
-        fails(IllegalArgumentException.class, vault, call);
-    }
-
-    private static void state(ColumnVault vault, Call call) {
-        fails(IllegalStateException.class, vault, call);
-    }
-
-    private static void element(ColumnVault vault, Call call) {
-        fails(NoSuchElementException.class, vault, call);
-    }
-
-    private static long word(String letters) {
-        long value = 0;
-        for (char letter : letters.toCharArray()) {
-            value = value * 256 + letter;
-        }
-        return value;
-    }
-
-    private static void say(ColumnVault vault, String text) {
-        vault.clearText();
-        for (int at = 0; at < text.length(); at += 8) {
-            vault.type(word(text.substring(at, Math.min(at + 8, text.length()))));
-        }
-    }
-
-    /** A table 0 with a column of numbers and one of texts; null stands for what is missing. */
-    private static ColumnVault vault(Object[]... rows) {
-        ColumnVault vault = new ColumnVault();
-        vault.addColumn(0, NUMBER);
-        vault.addColumn(0, TEXT);
-        for (Object[] row : rows) {
-            addRow(vault, 0, row);
-        }
-        return vault;
-    }
-
-    private static void addRow(ColumnVault vault, int table, Object... values) {
-        int row = vault.addRow(table);
-        for (int column = 0; column < values.length; column++) {
-            if (values[column] != null) {
-                vault.set(table, row, column, values[column] instanceof Integer number ? number : word(values[column].toString()));
-            }
-        }
-    }
-
-    private static Object[] row(Object... values) {
-        return values;
-    }
-
-    private static ColumnVault fiveRows() {
-        return vault(row(3, "b"), row(2, null), row(1, "ab"), row(0, null), row(-1, "a"));
-    }
-
-    private static void order(String due, ColumnVault vault) {
-        StringBuilder got = new StringBuilder();
-        for (int place = 0; place < vault.size(0, 0); place++) {
-            got.append(place > 0 ? " " : "").append(vault.rowAt(0, place));
-            is(place, vault.placeOf(0, vault.rowAt(0, place)));
-        }
-        is(due, got.toString());
-    }
-
-    /** The rows for which a filter holds. */
-    private static void rows(String due, ColumnVault vault, String filter) {
-        say(vault, filter);
-        is(0, vault.errorKind(0));
-        is(NONE, vault.errorPlace(0));
-        is(due.replaceAll("[^0-9]", "").length(), vault.choose(0, ColumnVault.SET));
-        is(due, chosen(vault));
-        is(vault.count(0), vault.size(0, 2));
-    }
-
-    private static String chosen(ColumnVault vault) {
-        StringBuilder rows = new StringBuilder();
-        for (int row = 0; row < vault.size(0, 0); row++) {
-            rows.append(vault.isChosen(0, row) ? " " + row : "");
-        }
-        return rows.toString().trim();
-    }
-
-    private static void error(int kind, int place, ColumnVault vault, String filter) {
-        say(vault, filter);
-        is(kind, vault.errorKind(0));
-        is(place, vault.errorPlace(0));
-        state(vault, () -> vault.count(0));
-        state(vault, () -> vault.reads(0, false));
-        state(vault, () -> vault.choose(0, ColumnVault.SET));
-    }
-
-    // ---- promises
 
     private static void aNewObject() {
         ColumnVault vault = new ColumnVault();
@@ -582,14 +442,12 @@ public final class PromisesTest {
         rows("0 1 2 3 4", vault, "((((((#0 < 1000000))))))");
         rows("1 3", vault, "!#1 to a zz");
         rows("0 1 3", vault, "!#1 < b");
-        vault.set(0, 0, 1, word("to"));
-        vault.set(0, 1, 1, word("in"));
-        vault.set(0, 2, 1, word("missing"));
-        rows("0 1 2", vault, "#1 in to in missing");
-        rows("0", vault, "#1 = to");
-        rows("2", vault, "#1 = missing");
-        rows("1 2", vault, "#1 to in missing");
-        rows("3", vault, "#1 missing");
+        ColumnVault words = vault(row(3, "to"), row(2, "in"), row(1, "missing"), row(0, null));
+        rows("0 1 2", words, "#1 in to in missing");
+        rows("0", words, "#1 = to");
+        rows("2", words, "#1 = missing");
+        rows("1 2", words, "#1 to in missing");
+        rows("3", words, "#1 missing");
         index(vault, () -> vault.count(3));
         vault.clearText();
         state(vault, () -> vault.count(0));
@@ -686,32 +544,33 @@ public final class PromisesTest {
         error(1, 5, vault, "#0 = A");
         error(1, 7, vault, "#0 = 1 2");
         error(1, 7, vault, "#0 = 1 to");
-        error(1, 7, vault, "#0 = 1 #9");
-        error(1, 7, vault, "#0 = 1 #");
-        error(1, 6, vault, "#0 = 1)");
-        error(1, 7, vault, "(#0 = 1");
-        error(1, 1, vault, "()");
-        error(1, 8, vault, "#0 = 1 |");
-        error(1, 9, vault, "#0 = 1 & | #0 = 1");
-        error(1, 1, vault, "!");
-        error(1, 0, vault, "to 1 2");
-        error(1, 0, vault, "12");
-        error(1, 0, vault, "abcdefghi");
-        error(1, 6, vault, "#0 in ");
-        error(1, 8, vault, "#0 in 1 -");
-        error(1, 8, vault, "#0 to 1 | #0 = 1");
-        error(1, 11, vault, "#0 missing 1");
-        error(3, 6, vault, "#0 to to to");
-        error(3, 8, vault, "#0 to 1 to");
-        error(3, 8, vault, "#0 in 1 missing");
-        error(3, 5, vault, "#0 = to");
-        error(3, 5, vault, "#0 = missing & #9 = 1");
-        error(1, 6, vault, "#0 = 1\t");
-        error(1, 6, vault, "#0 = 1\u00ff");
-        error(1, 7, vault, "!!!(#0 & #9 = 1)");
-        error(2, 8, vault, "!!!(!!! !#0 = 1)");
-        error(1, 7, vault, "#0 = 1 (((((((");
-        error(1, 7, vault, "#0 = 1 !!!!");
+        ColumnVault other = vault(row(1, "a"));
+        error(1, 7, other, "#0 = 1 #9");
+        error(1, 7, other, "#0 = 1 #");
+        error(1, 6, other, "#0 = 1)");
+        error(1, 7, other, "(#0 = 1");
+        error(1, 1, other, "()");
+        error(1, 8, other, "#0 = 1 |");
+        error(1, 9, other, "#0 = 1 & | #0 = 1");
+        error(1, 1, other, "!");
+        error(1, 0, other, "to 1 2");
+        error(1, 0, other, "12");
+        error(1, 0, other, "abcdefghi");
+        error(1, 6, other, "#0 in ");
+        error(1, 8, other, "#0 in 1 -");
+        error(1, 8, other, "#0 to 1 | #0 = 1");
+        error(1, 11, other, "#0 missing 1");
+        error(3, 6, other, "#0 to to to");
+        error(3, 8, other, "#0 to 1 to");
+        error(3, 8, other, "#0 in 1 missing");
+        error(3, 5, other, "#0 = to");
+        error(3, 5, other, "#0 = missing & #9 = 1");
+        error(1, 6, other, "#0 = 1\t");
+        error(1, 6, other, "#0 = 1\u00ff");
+        error(1, 7, other, "!!!(#0 & #9 = 1)");
+        error(2, 8, other, "!!!(!!! !#0 = 1)");
+        error(1, 7, other, "#0 = 1 (((((((");
+        error(1, 7, other, "#0 = 1 !!!!");
         index(vault, () -> vault.errorPlace(3));
         index(vault, () -> vault.errorPlace(-1));
         say(vault, "#0 = 1");
@@ -783,15 +642,6 @@ public final class PromisesTest {
         argument(vault, () -> vault.example(3));
         argument(vault, () -> vault.example(-1));
         is(texts[2].length(), vault.clearText());
-    }
-
-    private static void pairs(String due, ColumnVault vault, int many) {
-        StringBuilder got = new StringBuilder();
-        for (int pair = 0; pair < many; pair++) {
-            got.append(pair > 0 ? " " : "").append(vault.pairAt(pair, false)).append("-").append(vault.pairAt(pair, true));
-        }
-        is(due, got.toString());
-        index(vault, () -> vault.pairAt(many, false));
     }
 
     private static ColumnVault twoTables() {
